@@ -115,6 +115,11 @@ final class TextsTest {
         CHECK.tableFault(TOPIC + "claim c at a needs", 2, 42);
         CHECK.tableFault(TOPIC + "talker c on a seat 1;", 2, 33);
         CHECK.tableFault(TOPIC + "talker c seat 1 on a 3;", 2, 45);
+        CHECK.tableFault(TOPIC + "talker c seat 1;", 2, 39);
+        CHECK.tableFault(TOPIC + "talker c seat 1 on;", 2, 42);
+        CHECK.tableFault(TOPIC + "claim c;", 2, 31);
+        CHECK.tableFault(TOPIC + "claim c at;", 2, 34);
+        CHECK.tableFault(TOPIC + "talker c;", 2, 32);
         CHECK.tableFault(TOPIC + "talker c seat 1 on a fails;", 2, 50);
         CHECK.tableFault(TOPIC + "talker c seat 1 on a;feud c;", 2, 51);
         TalkChutes x = Check.withTable(TOPIC + "claim b at a needs;claim c at a propped needs b;");
@@ -139,6 +144,13 @@ final class TextsTest {
         CHECK.tableFault(TOPIC + "talker c seat 1 on a;feud a c;", 3, 50);
         CHECK.tableFault(TOPIC + "talker c seat 1 on a;feud c d;", 3, 52);
         CHECK.tableFault("claim c at a;" + TOPIC, 3, 11);
+        String alike = "topic ab worth 1 drift 1;topic ba worth 2 drift 1;topic aba worth 3 drift 1;topic aab worth 4 drift 1;"
+            + "topic b worth 5 drift 1;topic abcdefgh worth 6 drift 1;topic abcdefgi worth 7 drift 1;topic zbcdefgh worth 8 drift 1;";
+        String[] names = {"ab", "ba", "aba", "aab", "b", "abcdefgh", "abcdefgi", "zbcdefgh"};
+        for (int i = 0; i < names.length; i++) {
+            TalkChutes x = Check.withTable(alike + "claim c at " + names[i] + ";");
+            CHECK.given("names that are alike", x, x.claim(0, 0), i);
+        }
     }
 
     private static void tableFaultsOfNumbers() {

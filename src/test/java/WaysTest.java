@@ -174,6 +174,10 @@ final class WaysTest {
         // slope 0 shift 0 to 3, slope 1 shift 0: at 4 the last parts from the others
         CHECK.given("few", y, y.laws(0, 3), 5);
         CHECK.given("of several the least", y, y.ask(0, 3), 4);
+        CHECK.given("of all 32", y, y.ask(0, 0), 8);
+        TalkChutes z = landings(1, 1, 2, 2, 4, 3);
+        CHECK.given("two", z, z.laws(0, 3), 2);
+        CHECK.given("two can be parted", z, z.ask(0, 3), 3);
     }
 
     private static void pullsAreWeighed() {
