@@ -1,7 +1,6 @@
 import java.lang.reflect.InvocationTargetException;
 import java.lang.reflect.Method;
 import java.lang.reflect.Modifier;
-import java.util.ArrayList;
 import java.util.Arrays;
 import java.util.Comparator;
 import java.util.List;
@@ -38,13 +37,13 @@ final class AnyCallTest {
                 row[k] = type == boolean.class ? (Object) random.nextBoolean() : type == long.class ? (Object) (long) edge : edge;
             }
             boolean looked = i % 8 == 0;
-            List<Long> before = looked ? told(x) : null;
+            List<Long> before = looked ? Whole.stays(x) : null;
             String call = method.getName() + Arrays.toString(row);
             try {
                 Object got = method.invoke(x, row);
                 if (hasStatus(method.getName()) && x.status() != 0) {
                     CHECK.due(call + " refused", got instanceof Boolean b ? !b : ((Number) got).longValue() == -1, true);
-                    CHECK.due(call + " changes nothing", !looked || changesByFault(x, method.getName()) || before.equals(told(x)), true);
+                    CHECK.due(call + " changes nothing", !looked || changesByFault(x, method.getName()) || before.equals(Whole.stays(x)), true);
                 }
             } catch (InvocationTargetException e) {
                 CHECK.due(call + " threw " + e.getCause(), 1, 0);
@@ -58,31 +57,5 @@ final class AnyCallTest {
 
     private static boolean changesByFault(TalkChutes x, String name) {
         return x.status() == 10 && (name.equals("table") || name.equals("evenings"));
-    }
-
-    /** All that can be told without a change. */
-    private static List<Long> told(TalkChutes x) {
-        List<Long> all = new ArrayList<>();
-        all.add(x.top());
-        all.add(x.bottom());
-        all.add((long) x.fault(0));
-        all.add((long) x.fault(1));
-        for (int i = 0; i < 10; i++) {
-            all.add((long) x.many(i));
-            all.add((long) x.lived(i));
-            for (int what = 0; what < 5; what++) {
-                all.add((long) x.topic(i, what));
-                all.add((long) x.claim(i, what));
-                all.add((long) x.talker(i, what));
-                all.add((long) x.feud(i, what));
-            }
-        }
-        for (int tray = 0; tray < 4; tray++) {
-            for (int place = 0; place < 60; place++) {
-                all.add(x.read(tray, place));
-                all.add((long) x.status());
-            }
-        }
-        return all;
     }
 }

@@ -1,3 +1,7 @@
+import java.util.List;
+import java.util.function.Function;
+import java.util.function.Supplier;
+
 /** What every test needs: due answers, and texts that are fed. */
 final class Check {
     static final String TABLE = "odds 8;topic drains worth 3 drift 1;topic music worth 7 drift 0;"
@@ -7,14 +11,23 @@ final class Check {
         + "talker may seat 3 on music fails 4;talker ned seat 5 on trinity fails 16;"
         + "feud gus may;feud may ned;";
 
+    /** As full as a table can be, and every number at its most. */
+    static final String FULL = full();
+
     private int asked = 0;
     private int wrong = 0;
+    private String sentence = "";
+
+    /** What is asked from here on is asked for this sentence of this promise. */
+    void promise(int number, String words) {
+        sentence = "promise " + number + " (" + words + "): ";
+    }
 
     void due(String call, long got, long want) {
         asked++;
         if (got != want) {
             wrong++;
-            System.out.println(call + " answered " + got + ", due is " + want);
+            System.out.println(sentence + call + " answered " + got + ", due is " + want);
         }
     }
 
@@ -31,6 +44,17 @@ final class Check {
     void refused(String call, TalkChutes x, boolean got, int status) {
         due(call, got, false);
         due(call + ", status", x.status(), status);
+    }
+
+    /** Likewise, and of two objects made alike the one that was called is as the other one. */
+    void changesNothing(String call, Supplier<TalkChutes> made, Function<TalkChutes, Object> called, int status) {
+        TalkChutes x = made.get();
+        Object got = called.apply(x);
+        due(call, got instanceof Boolean ? (Boolean) got ? 1 : TalkChutes.NONE : ((Number) got).longValue(), TalkChutes.NONE);
+        due(call + ", status", x.status(), status);
+        List<Long> left = Whole.told(x);
+        List<Long> before = Whole.told(made.get());
+        due(call + " changes nothing", left.equals(before), true);
     }
 
     /** A call that answered what is due, with STATUS 0. */
@@ -65,6 +89,74 @@ final class Check {
         fault(text, x, kind, place);
     }
 
+    /** The place of the fault is where ^ stands, which is no part of the text. */
+    void tableFaultAt(int kind, String marked) {
+        tableFault(marked.replace("^", ""), kind, marked.indexOf('^'));
+    }
+
+    void eveningsFaultAt(int kind, String marked) {
+        eveningsFault(marked.replace("^", ""), kind, marked.indexOf('^'));
+    }
+
+    /** The table's text must be taken. */
+    TalkChutes tableTaken(String text) {
+        TalkChutes x = new TalkChutes();
+        int talkers = table(x, text);
+        given("table: " + text, x, talkers, x.many(2));
+        fault(text, x, 0, TalkChutes.NONE);
+        return x;
+    }
+
+    TalkChutes eveningsTaken(String text, int steps) {
+        TalkChutes x = withTable(TABLE);
+        given("evenings: " + text, x, evenings(x, text), steps);
+        fault(text, x, 0, TalkChutes.NONE);
+        return x;
+    }
+
+    /** An object that has something of all there is: what a refused call would harm is seen. */
+    static TalkChutes rich() {
+        TalkChutes x = withEvenings(TABLE, "say gus tune;say gus bill;any;");
+        x.mark();
+        x.live(3);
+        x.back();
+        x.mark();
+        x.rewrite(0, 0, 5);
+        x.mark();
+        x.tray(0, 1, 6);
+        int[] landings = {4, 2, 1, 1, 9, 3};
+        for (int i = 0; i < landings.length; i++) {
+            x.write(0, i, landings[i]);
+        }
+        x.tray(1, 1, 4);
+        x.write(1, 0, 77);
+        x.tray(2, 2, 2);
+        x.say(1, 2);
+        x.chutes(2);
+        feed(x, "odds 3;topic a worth");
+        return x;
+    }
+
+    private static String full() {
+        StringBuilder text = new StringBuilder("odds 16;");
+        for (int i = 0; i < 9; i++) {
+            text.append("topic ").append((char) ('a' + i)).append(" worth 20 drift 3;");
+        }
+        for (int i = 0; i < 8; i++) {
+            text.append("claim c").append((char) ('a' + i)).append(" at ").append((char) ('a' + i)).append(';');
+        }
+        for (int i = 0; i < 6; i++) {
+            text.append("talker t").append((char) ('a' + i)).append(" seat ").append(9 - i).append(" on i fails 16;");
+        }
+        int feuds = 0;
+        for (int i = 0; i < 6; i++) {
+            for (int j = 0; j < i && feuds < 10; j++, feuds++) {
+                text.append("feud t").append((char) ('a' + i)).append(" t").append((char) ('a' + j)).append(';');
+            }
+        }
+        return text.toString();
+    }
+
     static void feed(TalkChutes x, String text) {
         for (int i = 0; i < text.length(); i += 20) {
             x.feed(four(text, i), four(text, i + 4), four(text, i + 8), four(text, i + 12), four(text, i + 16));
@@ -93,6 +185,14 @@ final class Check {
         TalkChutes x = new TalkChutes();
         if (table(x, text) == TalkChutes.NONE) {
             throw new IllegalStateException("the table is not taken: fault " + x.fault(0) + " at " + x.fault(1) + " of " + text);
+        }
+        return x;
+    }
+
+    static TalkChutes withEvenings(String table, String text) {
+        TalkChutes x = withTable(table);
+        if (evenings(x, text) == TalkChutes.NONE) {
+            throw new IllegalStateException("the evenings are not taken: fault " + x.fault(0) + " at " + x.fault(1) + " of " + text);
         }
         return x;
     }
