@@ -260,6 +260,19 @@ final class BoundsEveningsTest {
         Check.evenings(z, "any;");
         CHECK.given("of nothing", z, z.live(5), 1);
         lived(z, 1, 0, 0, 0, 0);
+        CHECK.promise(49, "any without TALKERS, CLAIMS, where there were some in a TABLE ahead");
+        TalkChutes v = Check.withTable(SMALL);
+        Check.table(v, "topic t worth 1 drift 0;claim c at t;claim d at t propped;");
+        Check.evenings(v, "any;any;");
+        CHECK.given("without TALKERS", v, v.live(5), 2);
+        lived(v, 2, 0, 0, 0, 0);
+        CHECK.given("nothing was said", v, v.many(5), 0);
+        Check.table(v, SMALL);
+        Check.table(v, "topic t worth 1 drift 0;talker a seat 0 on t;");
+        Check.evenings(v, "any;any;");
+        CHECK.given("without CLAIMS", v, v.live(5), 2);
+        lived(v, 2, 0, 0, 0, 0);
+        CHECK.given("nothing was said", v, v.many(5), 0);
         CHECK.promise(49, "any: both draws first, though he FALLS");
         // one talker, one claim: say (2 draws), then 2 draws and the third is that of the chute
         TalkChutes w = Check.withTable("topic t worth 1 drift 0;claim c at t;talker a seat 0 on t fails 8;");
@@ -377,6 +390,13 @@ final class BoundsEveningsTest {
         leftBy(NINETY_NINE_BY_THREE + "loop 2;say a d;end;", 300, 1);
         CHECK.promise(50, "1 if a STEP was left to be done: what a when leaves out is none");
         leftBy(NINETY_NINE_BY_THREE + "say a d;when falls a;say a d;end;", 300, 0);
+        CHECK.promise(50, "1 if a STEP was left to be done: of this live(), not of one ahead");
+        TalkChutes x = evening(NINETY_NINE_BY_THREE + "loop 9;say a d;end;");
+        CHECK.given("live(0)", x, x.live(0), 300);
+        lived(x, 0, 298, 0, 0, 1);
+        Check.evenings(x, "drop a 1;");
+        CHECK.given("live(0)", x, x.live(0), 1);
+        lived(x, 1, 0, 0, 0, 0);
         CHECK.promise(50, "1 if a STEP was left to be done: not behind a stop");
         leftBy("stop;say a d;", 1, 0);
         leftBy(NINETY_NINE_BY_THREE + "say a d;stop;say a d;", 300, 0);

@@ -11,6 +11,7 @@ final class BoundsFeudsTest {
         quarrels();
         quarrelsRefused();
         spread();
+        feudsAreThoseOfNow();
         spreadRefused();
         seating();
         seatOf();
@@ -115,6 +116,33 @@ final class BoundsFeudsTest {
         CHECK.promise(43, "k TOPICS, or fewer");
         spread(talkers(1, ""), 4, 0);
         spread(talkers(2, "ab"), 4, 0, 1);
+    }
+
+    private static void feudsAreThoseOfNow() {
+        TalkChutes x = talkers(6, "ab ac ad ae bc bd be cd ce de");
+        x.mark();
+        Check.table(x, "topic t worth 1 drift 1;talker a seat 0 on t;talker b seat 1 on t;talker c seat 2 on t;");
+        x.peace();
+        x.back();
+        CHECK.promise(41, "the FEUDS of now, not of a TABLE ahead");
+        CHECK.given("five", x, x.peace(), 5);
+        Check.table(x, "topic t worth 1 drift 1;talker a seat 0 on t;talker b seat 1 on t;talker c seat 2 on t;");
+        CHECK.given("one", x, x.peace(), 1);
+        CHECK.promise(42, "the FEUDS of now, not of a TABLE ahead");
+        CHECK.given("none", x, x.quarrels(1), 0);
+        CHECK.promise(44, "the FEUDS of now, not of a TABLE ahead");
+        seats(x, 0, 0, 1, 2);
+        CHECK.promise(43, "the way of this call, not of one ahead");
+        spread(x, 1, 0, 0, 0);
+        x.anger(0, 1);
+        x.anger(1, 2);
+        spread(x, 4, 0, 1, 0);
+        spread(x, 1, 0, 0, 0);
+        seats(x, 2, 0, 1, 2);
+        spread(x, 1, 0, 0, 0);
+        CHECK.promise(45, "the way of this call, not of one ahead");
+        x.spread(1, 0);
+        CHECK.given("seatOf(2)", x, x.seatOf(2), 2);
     }
 
     private static void spreadRefused() {

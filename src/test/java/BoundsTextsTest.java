@@ -136,6 +136,12 @@ final class BoundsTextsTest {
         CHECK.refused("no evenings", y, y.live(0), 8);
         CHECK.refused("names are gone", y, Check.evenings(y, "say gus rain;"), 10);
         CHECK.fault("say gus rain;", y, 3, 4);
+        CHECK.promise(10, "nobody FALLS, nothing was SAID, behind a mean() by which they did, too");
+        TalkChutes z = Check.withEvenings(Check.TABLE, "say may bill;");
+        z.mean(0, 1);
+        CHECK.given("table", z, Check.table(z, Check.TABLE), 3);
+        CHECK.given("nobody falls", z, z.many(8), 0);
+        CHECK.given("nothing was said", z, z.many(5), 0);
         CHECK.promise(10, "how many TALKERS: none, six");
         CHECK.given("none", y, Check.table(y, T), 0);
         CHECK.given("six", y, Check.table(y, Check.FULL), 6);
@@ -461,6 +467,17 @@ final class BoundsTextsTest {
             CHECK.given("lived(1)", x, x.lived(1), 2);
             CHECK.given("who falls", x, x.many(8), 1);
         }
+        CHECK.promise(11, "10: what a text with a FAULT left open is not open in the next one");
+        TalkChutes open = Check.withTable(Check.TABLE);
+        CHECK.refused("three loops without an end", open, Check.evenings(open, "loop 1;loop 1;loop 1;"), 10);
+        CHECK.given("three loops", open, Check.evenings(open, "loop 1;loop 1;loop 1;end;end;end;"), 3);
+        CHECK.refused("a loop without an end", open, Check.evenings(open, "loop 1;"), 10);
+        CHECK.refused("an end without a beginning", open, Check.evenings(open, "end;"), 10);
+        CHECK.fault("end;", open, 2, 0);
+        CHECK.promise(10, "10: what a text with a FAULT told is not told in the next one");
+        CHECK.refused("odds", open, Check.table(open, "odds 3;" + T + "!"), 10);
+        CHECK.given("odds again", open, Check.table(open, "odds 5;" + T), 0);
+        CHECK.given("one topic", open, open.many(0), 1);
         CHECK.promise(11, "likewise in place of those ahead");
         TalkChutes x = Check.withEvenings(Check.TABLE, "any;any;any;");
         CHECK.given("evenings", x, Check.evenings(x, "say gus rain;"), 1);

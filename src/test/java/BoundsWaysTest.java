@@ -361,9 +361,15 @@ final class BoundsWaysTest {
         TalkChutes alike = seen(9, 9, 1, 1);
         CHECK.given("SLOPE 0, SHIFT 0 to 3", alike, alike.laws(0, 2), 4);
         CHECK.given("ask", alike, alike.ask(0, 2), 1);
-        CHECK.promise(38, "the HEIGHT (1 to 9): 9");
-        TalkChutes high = seen(4, 2);
-        CHECK.given("ask", high, high.ask(0, 1), 9);
+        CHECK.promise(38, "the HEIGHT (1 to 9): each of them, and none above");
+        int[][] asked = {{4, 4, 1}, {5, 4, 1}, {7, 2, 2}, {8, 3, 3}, {1, 1, 4}, {6, 2, 5}, {2, 1, 6}, {1, 0, 7}, {3, 1, 8}, {2, 0, 9}};
+        for (int[] a : asked) {
+            TalkChutes x = seen(a[0], a[1]);
+            CHECK.given("ask behind " + a[0] + " to " + a[1], x, x.ask(0, 1), a[2]);
+        }
+        CHECK.promise(38, "none seen: all 32");
+        TalkChutes unseen = seen();
+        CHECK.given("ask", unseen, unseen.ask(0, 0), 8);
         CHECK.promise(38, "1; 3; 4; 5");
         for (int tray : NO_TRAYS) {
             CHECK.changesNothing("ask(" + tray + ", -1)", Check::rich, x -> x.ask(tray, -1), 1);

@@ -13,11 +13,9 @@ final class Whole {
         List<Long> all = stays(x);
         long taped = x.feed(0x3b3b3b3b, 0, 0, 0, 0);
         all.add(taped);
-        int marks = 0;
-        while (x.mark() != TalkChutes.NONE) {
-            marks++;
+        for (int i = 0; i <= MOST_MARKS; i++) {
+            all.add((long) x.mark());
         }
-        all.add((long) marks);
         for (int i = 0; i < MOST_MARKS; i++) {
             all.add((long) x.live(7));
             all.add((long) x.status());
