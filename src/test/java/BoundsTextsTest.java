@@ -1,3 +1,5 @@
+import java.util.List;
+
 /** The boundary cases that promises 9 to 12 name: feed, table, evenings, fault, and the FAULTS of a text. */
 final class BoundsTextsTest {
     private static final Check CHECK = new Check();
@@ -12,6 +14,7 @@ final class BoundsTextsTest {
         tableOfSoManyBytes();
         tableOfAllBytes();
         tableInPlaceOfTheOldOne();
+        nothingElseIsChangedByAFault();
         tokens();
         numbersOfDigits();
         names();
@@ -145,6 +148,30 @@ final class BoundsTextsTest {
         CHECK.promise(10, "how many TALKERS: none, six");
         CHECK.given("none", y, Check.table(y, T), 0);
         CHECK.given("six", y, Check.table(y, Check.FULL), 6);
+    }
+
+    private static void nothingElseIsChangedByAFault() {
+        // The same FAULT behind both makes alike what may differ: the tape, and what fault() tells.
+        TalkChutes untouched = Check.rich();
+        TalkChutes byTable = Check.rich();
+        TalkChutes byEvenings = Check.rich();
+        CHECK.promise(10, "with 10 nothing but the tape, and what fault() tells");
+        CHECK.refused("table(20)", byTable, byTable.table(20), 10);
+        CHECK.fault("odds 3;topic a worth", byTable, 2, 20);
+        CHECK.promise(11, "with 10 nothing but the tape, and what fault() tells");
+        CHECK.refused("evenings(20)", byEvenings, byEvenings.evenings(20), 10);
+        CHECK.fault("odds 3;topic a worth", byEvenings, 2, 0);
+        List<Long> before = Whole.stays(untouched);
+        TalkChutes[] both = {byTable, byEvenings};
+        for (TalkChutes x : both) {
+            List<Long> left = Whole.stays(x);
+            CHECK.due("the FRACTION stays", left.subList(0, 2).equals(before.subList(0, 2)), true);
+            CHECK.due("all behind fault() stays", left.subList(4, left.size()).equals(before.subList(4, before.size())), true);
+        }
+        byTable.feed(0x21000000, 0, 0, 0, 0);
+        byEvenings.feed(0x21000000, 0, 0, 0, 0);
+        CHECK.due("alike then", byTable.table(1) == byEvenings.table(1), true);
+        CHECK.due("EVENINGS, MARKS are alike", Whole.told(byTable).equals(Whole.told(byEvenings)), true);
     }
 
     private static void tokens() {
